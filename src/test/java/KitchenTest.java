@@ -8,6 +8,8 @@ public final class KitchenTest {
         peopleAndWater();
         latestComing();
         leastSetStill();
+        leastSetNoMore();
+        firstAndLastAreNotByStanding();
         aSetOfItsOwnForEach();
         noSetGoesBack();
         wrongOnes();
@@ -108,6 +110,39 @@ public final class KitchenTest {
         town.camp(4, 20);
         CHECK.due("set of camp 4", town.of(4, 3), 0);
         CHECK.due("set of camp 5", town.of(5, 3), 1);
+    }
+
+    /** Set 0 could do camp 3, but camp 4 can be done behind camp 1 alone: with two sets camp 3 falls to set 1. */
+    private static void leastSetNoMore() {
+        DesertTown town = new DesertTown();
+        town.racer(10);
+        town.camp(1, 462);
+        town.camp(2, 301);
+        town.camp(3, 900);
+        town.camp(4, 1);
+        town.breaks(0, 4, 0);
+        int[] want = {0, 1, 1, 0};
+        for (int c = 1; c <= 4; c++) {
+            CHECK.due("set of camp " + c, town.of(c, 3), want[c - 1]);
+        }
+        CHECK.due("sets", town.sets(), 2);
+        CHECK.due("goes(0)", town.goes(0), 301 + 900 + 1);
+        CHECK.due("goes(1)", town.goes(1), 900);
+        town.camp(2, 300);
+        CHECK.due("camp 4 behind camp 2 too", town.of(3, 3), 0);
+        CHECK.due("set of camp 4 then", town.of(4, 3), 1);
+    }
+
+    /** Who is first in standing may arrive behind the second, by the start. */
+    private static void firstAndLastAreNotByStanding() {
+        DesertTown town = new DesertTown();
+        town.racer(99);
+        town.racer(100);
+        town.set(0, 0);
+        town.set(1, 0);
+        CHECK.due("first in standing", town.standing(0, 0), 1);
+        CHECK.due("first arrival", town.of(1, 1), 360 + 61);
+        CHECK.due("last arrival", town.of(1, 2), 362 + 60);
     }
 
     private static void aSetOfItsOwnForEach() {
