@@ -4,7 +4,7 @@ import java.nio.file.Path;
 import java.util.LinkedHashMap;
 import java.util.Map;
 
-/** The words of the document from its terms to its last promise, and which of them a test has named. */
+/** The words of the document, section by section, and which of them a test has named. */
 final class Document {
     private final Map<String, String> words = new LinkedHashMap<>();
     private final Map<String, boolean[]> named = new LinkedHashMap<>();
@@ -54,7 +54,7 @@ final class Document {
             for (String line : Files.readAllLines(file)) {
                 if (line.startsWith("## ")) {
                     section = line.substring(3).replaceAll(":.*", "");
-                } else if (isOfARule(section) && !line.startsWith("```")) {
+                } else if (!section.isEmpty() && !line.startsWith("```")) {
                     words.merge(section, plain(line), Document::join);
                 }
             }
@@ -64,13 +64,9 @@ final class Document {
         words.forEach((name, text) -> named.put(name, new boolean[text.length()]));
     }
 
-    private static boolean isOfARule(String section) {
-        return section.equals("Terms") || section.startsWith("Promise");
-    }
-
     /** Without the marks of the document's parts and the heads of its methods. */
     private static String plain(String line) {
-        return line.replaceAll("^==== \\d+\\.", "").replaceAll("^`[^`]*\\)`:", "").trim();
+        return line.replaceAll("==== \\d+\\.", "").replaceAll("^`[^`]*\\)`:", "").trim();
     }
 
     private static String join(String before, String line) {

@@ -1,10 +1,11 @@
-/** Stage 2: every sentence of the document's terms and promises with a test of its own, at its boundaries. */
+/** Every sentence of the document with a test of its own, at its boundaries. */
 public final class SentencesTest {
     private SentencesTest() {
     }
 
     public static void main(String[] args) {
         Sentences sentences = new Sentences();
+        TheWhole.test(sentences);
         TermsOfTheRow.test(sentences);
         TermsOfTheBook.test(sentences);
         TermsOfTheRace.test(sentences);
